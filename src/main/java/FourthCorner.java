@@ -708,10 +708,14 @@ public final class FourthCorner {
 
         int rowsFrom(int m) {
             int many = 0;
-            for (depths[0] = m; depths[0] <= DEPTH_LIMIT; depths[0]++) {
-                for (depths[1] = m; depths[1] <= DEPTH_LIMIT; depths[1]++) {
-                    for (depths[2] = m; depths[2] <= DEPTH_LIMIT; depths[2]++) {
-                        for (depths[3] = m; depths[3] <= DEPTH_LIMIT; depths[3]++) {
+            for (int zeroth = m; zeroth <= DEPTH_LIMIT; zeroth++) {
+                depths[0] = zeroth;
+                for (int first = m; first <= DEPTH_LIMIT; first++) {
+                    depths[1] = first;
+                    for (int second = m; second <= DEPTH_LIMIT; second++) {
+                        depths[2] = second;
+                        for (int third = m; third <= DEPTH_LIMIT; third++) {
+                            depths[3] = third;
                             many += firstToSlip() == NONE ? 1 : 0;
                         }
                     }
