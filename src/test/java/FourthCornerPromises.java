@@ -1,7 +1,7 @@
 import java.util.ArrayList;
 import java.util.List;
 
-/** For each promise of the document answers worked out by hand: ordinary ones, edges, refusals. */
+/** For each promise of the document answers that are due, nearly all worked out by hand: ordinary ones, edges, refusals. */
 public final class FourthCornerPromises {
     private static final int UNKNOWN = -1, OUTSIDE = -2, STATE = -3, FULL = -4, NONE = -9;
     /** Each corner must be as deep as both beside it in the mean: only rows of one and the same depth hold. */
@@ -665,7 +665,7 @@ public final class FourthCornerPromises {
         due("seed behind 30", x.seed(4), seed);
         same("ward but for the seed", x, before);
         due("ward(30)", made("B311110000").ward(30), 0);
-        // Only a depth of one kind all round holds on EVEN: of 30 beds by this seed none has it.
+        // Only a depth of one kind all round holds on EVEN; that none of these 30 beds has it is not by hand.
         due("ward(30)", made(EVEN).ward(30), 0);
         FourthCorner bent = made("B311110000");
         for (int corner = 0; corner < 4; corner++) {
