@@ -1,7 +1,7 @@
 import java.util.ArrayList;
 import java.util.List;
 
-/** For each promise of the document answers that are due, nearly all worked out by hand: ordinary ones, edges, refusals. */
+/** For each promise of the document answers that are due, nearly all worked out by hand: ordinary, edges, refusals. */
 public final class FourthCornerPromises {
     private static final int UNKNOWN = -1, OUTSIDE = -2, STATE = -3, FULL = -4, NONE = -9;
     /** Each corner must be as deep as both beside it in the mean: only rows of one and the same depth hold. */
