@@ -42,6 +42,8 @@ public final class FourthCornerEdges {
     private static final String EVEN = "B144440000";
     /** Corner 0 must be as deep as 1 and 3 together; a row is 2111 at least. */
     private static final String HEAVY = "B139990000";
+    /** 5 a >= 2 (b + d), 4 b >= 2 (a + c), 3 c >= 2 (b + d), 5 d >= 2 (a + c): 4564 alone holds. */
+    private static final String ALONE = "B298790000";
     /** Two corners side by side never hold. */
     private static final String WEAK = "B111110000";
 
@@ -1136,6 +1138,10 @@ public final class FourthCornerEdges {
         due("rowOf(4), it would be 8444", made(HEAVY).rowOf(4), NONE);
         due("rowOf(6)", made(EVEN).rowOf(6), 6666);
         due("rowOf(1)", made(WEAK).rowOf(1), NONE);
+        for (int m = 1; m <= 6; m++) {
+            due("rowOf(" + m + "), one alone", made(ALONE).rowOf(m), m <= 4 ? 4564 : NONE);
+            due("rows(" + m + "), one alone", made(ALONE).rows(m), m <= 4 ? 1 : 0);
+        }
         outsideOf1To6("rowOf", (x, m) -> x.rowOf(m));
     }
 
@@ -1148,6 +1154,7 @@ public final class FourthCornerEdges {
             String text = "B11111" + repeated("" + slack, 4);
             leaves(() -> made(text), "deepest() of " + text, x -> x.deepest(), deepest[slack]);
         }
+        due("deepest(), one row alone", made(ALONE).deepest(), 4);
         due("deepest() at first", new FourthCorner().deepest(), 0);
     }
 
@@ -1183,6 +1190,10 @@ public final class FourthCornerEdges {
             }
         }
         due("fewestAt(6, 0), one less", laid(LOOSE, 6, 6, 6, 5).fewestAt(6, 0), 36);
+        int[] alone = {4, 15, 26, 34};
+        for (int i = 0; i < 4; i++) {
+            due("fewestAt(1, " + i + "), one row alone", made(ALONE).fewestAt(1, i), alone[i]);
+        }
         // 0 as deep as 1 and 3 together, set first or last: first.
         due("fewestAt(1, 0)", laid(HEAVY, 0, 1, 1, 1).fewestAt(1, 0), 2);
     }
@@ -1215,6 +1226,14 @@ public final class FourthCornerEdges {
         due("byTwo(6), three less", laid(LOOSE, 6, 5, 5, 5).byTwo(6), 2);
         due("byTwo(6), four less", laid(LOOSE, 5, 5, 5, 5).byTwo(6), 2);
         due("byTwo(1) from all off", made(LOOSE).byTwo(1), 2);
+        for (int a = 0; a < 4; a++) {
+            for (int b = a + 1; b < 4; b++) {
+                int[] depths = {6, 6, 6, 6};
+                depths[a] = 0;
+                depths[b] = 0;
+                due("byTwo(6), " + a + " and " + b + " off", laid(LOOSE, depths).byTwo(6), 1);
+            }
+        }
         // Nothing but 2222 holds of 2 and more with these three: the other one is set to what it has.
         due("byTwo(2), one as it is", laid(EVEN, 2, 2, 2, 0).byTwo(2), 1);
     }
@@ -1730,6 +1749,7 @@ public final class FourthCornerEdges {
             due("count(" + what + "), the least", new FourthCorner().count(what), least[what]);
         }
         due("count(8), 4 times 27", laid(JUST, 6, 6, 6, 6).count(8), 108);
+        due("count(8), 5 and 4 - 1 and 4 - 2 and 0", laid("B199990125", 3, 2, 2, 2).count(8), 10);
         due("count(4), a leading 0", laid(LOOSE, 0, 0, 0, 6).count(4), 6);
         due("count(3)", laid(LOOSE, 0, 0, 0, 6).count(3), 8);
         due("count(5), a leading 0", bent(LOOSE, 0, 0, 3, 0).count(5), 30);
