@@ -375,8 +375,8 @@ public final class FourthCorner {
             return OUTSIDE;
         }
         int many = 0;
-        int first = NONE;
-        int least = Integer.MAX_VALUE;
+        int first = ORDERS[0];
+        int least = screws.gapBy(first, n);
         for (int i = 0; i < ORDERS.length; i++) {
             int gap = screws.gapBy(ORDERS[i], n);
             if (gap < least) {

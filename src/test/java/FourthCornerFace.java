@@ -119,5 +119,22 @@ public final class FourthCornerFace {
             check(false, "a word that is ruled out: " + words.group());
         }
         check(!Pattern.compile("static\\s*\\{").matcher(code).find(), "a static initialiser block");
+        checkLibrary(code);
+    }
+
+    /** Rule 4: "the static functions of Integer, Long and Math over int and long", so no constants of theirs. */
+    private static void checkLibrary(String code) {
+        Matcher uses = Pattern.compile("\\b(Integer|Long|Math|Arrays|System|Character|Boolean|Short|Byte)\\s*\\."
+            + "\\s*(\\w+)\\s*(\\(?)").matcher(code.replaceAll("import [^;]*;", ""));
+        while (uses.find()) {
+            boolean call = !uses.group(3).isEmpty();
+            boolean listed = switch (uses.group(1)) {
+                case "Integer", "Long", "Math" -> !uses.group(2).endsWith("Exact");
+                case "Arrays" -> Set.of("copyOf", "copyOfRange", "fill").contains(uses.group(2));
+                case "System" -> uses.group(2).equals("arraycopy");
+                default -> false;
+            };
+            check(call && listed, "rule 4, not in the library's list: " + uses.group());
+        }
     }
 }
