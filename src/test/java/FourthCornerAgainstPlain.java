@@ -10,13 +10,16 @@ import java.util.regex.Matcher;
 import java.util.regex.Pattern;
 
 /**
- * Long runs of calls on the class and on a plain model of the document, which tries everything out where the
+ * Runs of 512 calls on the class and on a plain model of the document, which tries everything out where the
  * class is clever. The runs are drawn from fixed seeds, so they are the same each time.
  */
 public final class FourthCornerAgainstPlain {
     private static final int UNKNOWN = -1, OUTSIDE = -2, STATE = -3, FULL = -4, NONE = -9;
     private static final int RUNS = 400;
-    private static final int ACTIONS = 110;
+    /** The document: "An object is used for at most 512 calls after it has been made". */
+    private static final int CALLS = 512;
+    /** No step of a run makes more calls than this: a bed of 22 letters, three calls with it, and two looks. */
+    private static final int CALLS_OF_A_STEP = 27;
 
     private static int wrong = 0;
 
@@ -24,7 +27,8 @@ public final class FourthCornerAgainstPlain {
         for (int run = 0; run < RUNS && wrong < 20; run++) {
             new Run(run).go();
         }
-        System.out.println(wrong == 0 ? "all runs agree" : "some answers are not as due");
+        System.out.println(wrong == 0 ? "all " + RUNS + " runs of " + CALLS + " calls agree"
+            : "some answers are not as due");
         if (wrong != 0) {
             System.exit(1);
         }
@@ -37,6 +41,7 @@ public final class FourthCornerAgainstPlain {
         private final Plain plain = new Plain();
         private final List<String> told = new ArrayList<>();
         private final int number;
+        private int calls = 0;
         private boolean parted = false;
 
         Run(int number) {
@@ -45,18 +50,34 @@ public final class FourthCornerAgainstPlain {
         }
 
         void go() {
-            for (int i = 0; i < ACTIONS && !parted; i++) {
-                if (i == 0 && random.nextInt(8) > 0 || random.nextInt(40) == 0) {
+            boolean first = true;
+            while (!parted && calls + CALLS_OF_A_STEP <= CALLS) {
+                if (first && random.nextInt(8) > 0 || random.nextInt(40) == 0) {
                     writeBed();
                 } else {
                     one(random.nextInt(100));
                 }
+                first = false;
                 due("count(4)", real.count(4), plain.count(4));
                 due("count(6)", real.count(6), plain.count(6));
             }
+            while (!parted && calls < CALLS) {
+                lastOnes();
+            }
+            if (!parted && calls != CALLS) {
+                wrong++;
+                System.out.println("run " + number + " has " + calls + " calls");
+            }
+        }
+
+        /** One call each: the dearest ones too are asked to the last. */
+        private void lastOnes() {
+            int kind = random.nextInt(70);
+            one(kind < 30 ? kind : kind + 30);
         }
 
         private void due(String call, long got, long want) {
+            calls++;
             if (!parted) {
                 told.add(call + " = " + got);
             }
