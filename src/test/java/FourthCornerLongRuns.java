@@ -455,6 +455,17 @@ public final class FourthCornerLongRuns {
         });
     }
 
+    private static void bendingOfLikeOnes() {
+        begin(23, "of like ones the least; NONE.", "B133332222");
+        due("bend(0, 1)", x.bend(0, 1), 0);
+        // At 6666 a corner is pulled 20 and bears 18; each bend is 2 less for its own corner and 1 less for both beside
+        // it. So 1010 and 0101 do, and no other of 2 together.
+        rounds(2, 10, i -> {
+            due("bending(6)", x.bending(6), 101);
+            due("count(5)", x.count(5), 1000);
+        });
+    }
+
     private static void washes() {
         begin(24, "behind how many (0 to 9) there is first no ROW of m; NONE: there is one behind 9.", EASED);
         int[] want = {OUTSIDE, NONE, NONE, NONE, 1, 0, 0, OUTSIDE};
@@ -721,7 +732,8 @@ public final class FourthCornerLongRuns {
             FourthCornerLongRuns::judge, FourthCornerLongRuns::rows, FourthCornerLongRuns::rowOf,
             FourthCornerLongRuns::deepest, FourthCornerLongRuns::fewest, FourthCornerLongRuns::fewestAt,
             FourthCornerLongRuns::byTwo, FourthCornerLongRuns::orders, FourthCornerLongRuns::creases,
-            FourthCornerLongRuns::bending, FourthCornerLongRuns::washes, FourthCornerLongRuns::likely,
+            FourthCornerLongRuns::bending, FourthCornerLongRuns::bendingOfLikeOnes,
+            FourthCornerLongRuns::washes, FourthCornerLongRuns::likely,
             FourthCornerLongRuns::tries, FourthCornerLongRuns::drum, FourthCornerLongRuns::cross,
             FourthCornerLongRuns::drawer, FourthCornerLongRuns::seed, FourthCornerLongRuns::ward,
             FourthCornerLongRuns::wardsAndTheSeed, FourthCornerLongRuns::keep, FourthCornerLongRuns::again,
